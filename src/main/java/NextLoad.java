@@ -1231,26 +1231,28 @@ public final class NextLoad {
             fillTwo(tops[l], starts[l + 1]);
         }
 
+        /** VALUES are compared ahead of their cut: the greatest one cut is the greatest of those that are cut. */
         private void fillOne(int top, int[] next) {
             int[] fresh = odds[lift * ROUNDS];
             int[] once = odds[lift * ROUNDS + 1];
             int[] twice = odds[lift * ROUNDS + 2];
             for (int b = 1; b <= top && sum + top < SUMS; b++) {
                 int ended = next[sum + b];
-                int best = atFirst(top, ended);
-                int bestOnce = best;
+                int most = atFirst(top, ended);
+                int mostOnce = most;
                 oneOnce[b * ROW + top + 1] = ended;
                 for (int x = top; x > b; x--) {
-                    best = Math.max(best, mix(fresh[x], next[sum + x], ended));
-                    bestOnce = Math.max(bestOnce, mix(once[x], next[sum + x], ended));
-                    oneOnce[b * ROW + x] = bestOnce;
+                    int gain = next[sum + x] - ended;
+                    most = Math.max(most, 1000 * ended + fresh[x] * gain);
+                    mostOnce = Math.max(mostOnce, 1000 * ended + once[x] * gain);
+                    oneOnce[b * ROW + x] = mostOnce / 1000;
                 }
-                oneFresh[b] = b < top ? best : ended;
+                oneFresh[b] = b < top ? most / 1000 : ended;
             }
-            int bestTwice = atFirst(top, out);
+            int mostTwice = atFirst(top, out);
             for (int x = top; x > 0 && sum + top < SUMS; x--) {
-                bestTwice = Math.max(bestTwice, mix(twice[x], next[sum + x], out));
-                oneTwice[x] = bestTwice;
+                mostTwice = Math.max(mostTwice, 1000 * out + twice[x] * (next[sum + x] - out));
+                oneTwice[x] = mostTwice / 1000;
             }
         }
 
@@ -1258,29 +1260,31 @@ public final class NextLoad {
             int[] fresh = odds[lift * ROUNDS];
             int[] once = odds[lift * ROUNDS + 1];
             for (int b = 1; b <= top && sum + top < SUMS; b++) {
-                int best = atFirst(top, next[sum + b]);
+                int most = atFirst(top, next[sum + b]);
                 for (int x = top; x > b; x--) {
-                    best = Math.max(best, mix(fresh[x], oneFresh[x], oneOnce[b * ROW + x]));
+                    int not = oneOnce[b * ROW + x];
+                    most = Math.max(most, 1000 * not + fresh[x] * (oneFresh[x] - not));
                 }
-                twoFresh[b] = b < top ? best : next[sum + b];
+                twoFresh[b] = b < top ? most / 1000 : next[sum + b];
             }
-            int bestOnce = atFirst(top, out);
+            int mostOnce = atFirst(top, out);
             for (int x = top; x > 0; x--) {
-                bestOnce = Math.max(bestOnce, mix(once[x], oneOnce[x * ROW + x + 1], oneTwice[x]));
-                twoOnce[x] = bestOnce;
+                int not = oneTwice[x];
+                mostOnce = Math.max(mostOnce, 1000 * not + once[x] * (oneOnce[x * ROW + x + 1] - not));
+                twoOnce[x] = mostOnce / 1000;
             }
         }
 
-        /** What the LOADS above the top are worth, if there are such. */
+        /** What the LOADS above the top are worth (not cut yet), if there are such. */
         private static int atFirst(int top, int ended) {
-            return top < HEAVIEST ? ended : -1;
+            return top < HEAVIEST ? 1000 * ended : -1;
         }
 
         private int choose(int left, int failed, int best, int least) {
             int top = tops[lift];
             int ended = best == 0 ? out : endOf(best);
             load = Math.max(least, top + 1);
-            int value = least > top ? ended : atFirst(top, ended);
+            int value = least > top || top < HEAVIEST ? ended : -1;
             for (int x = top; x >= least && x >= 1; x--) {
                 int found = valueAt(left, failed, best, x);
                 if (found >= value) {
