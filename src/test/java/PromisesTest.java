@@ -28,7 +28,9 @@ public final class PromisesTest {
         freeNowAndThen();
         lines();
         duel();
+        duelAtTheEdges();
         drawn();
+        greatest();
         rowStays();
         C.end();
     }
@@ -176,6 +178,9 @@ public final class PromisesTest {
         C.due("ASKED", x.lifter(1, 0, 6), 40);
         C.due("plans MORE", x.plans(0, 2, 1, 9), 1);
         C.due("plans AGAIN", x.plans(0, 2, 2, 9), 0);
+        C.due("plans the least MORE", x.plans(0, 1, 1, 1), 1);
+        C.due("plans the least AGAIN", x.plans(0, 1, 2, 0), 0);
+        C.due("plans the least OPEN", x.plans(0, 1, 0, 1), 10);
         C.due("MORE", x.lifter(0, 2, 3), 9);
         C.due("AGAIN", x.lifter(0, 2, 4), 9);
         x.tries(true);
@@ -610,6 +615,29 @@ public final class PromisesTest {
         C.due("NONE ahead of it", x.bluff(2, 0, 3, 1), -1);
     }
 
+    /** LOADS 1 and 40, where there is no lesser or greater one. */
+    private static void duelAtTheEdges() {
+        String start = ";40=500/1+1+0;40=500/1+1+0;40=500/";
+        NextLoad low = with("70,1" + start + "1+1+0", "80,2" + start + "1+1+0");
+        NextLoad high = with("70,1" + start + "40+1+0", "80,2" + start + "40+1+0");
+        for (NextLoad x : new NextLoad[] {low, high}) {
+            while (x.count(1) < 2 || x.count(2) < 2) {
+                x.tries(x.count(1) < 2);
+            }
+        }
+        // both are OUT if they FAIL; a GOOD: like sums at most, a leads; a FAILED: never AHEAD
+        C.due("both at 1, no CHANGES", low.bluff(0, 1, 0, 0), 500000);
+        C.due("both at 1: b goes above, a GOOD", low.bluff(0, 1, 0, 1), 250000);
+        C.due("both at 1, from the other side", low.bluff(1, 0, 0, 0), 250000);
+        C.row("both at 1", low, 0, 0);
+        C.due("both at 40", high.bluff(0, 1, 2, 2), 500000);
+        C.row("both at 40", high, 0, 0);
+        C.due("both at 40", high.duel(1, 0), 250000);
+        C.row("both at 40", high, 0, 0, 250000);
+        C.due("who has FAILED twice, tired", high.tires(200), 0);
+        C.due("both at 40, 100 of 1000", high.duel(0, 1), 100000);
+    }
+
     private static void drawn() {
         NextLoad x = with("80,5" + HALF, "70,6" + HALF);
         int r = 42;
@@ -645,6 +673,34 @@ public final class PromisesTest {
         C.row("often: OUT", sure, 50, 0);
         C.due("plays", sure.plays(-1), 12);
         C.row("plays", sure, 0, 1);
+    }
+
+    /** The greatest TOTAL, and as many TRIES as can be. */
+    private static void greatest() {
+        NextLoad x = with("80,5;40=1000/40+1+0;40=1000/40+1+0;40=1000/40+1+0");
+        C.due("likeliest", x.likeliest(0), 120);
+        C.row("likeliest", x, 1000000, 1000000);
+        C.due("mass", x.mass(0), 120000);
+        C.due("chance of 120", x.chance(0, 120), 1000000);
+        C.due("reach 120", x.reach(0, 120), 1000000);
+        C.row("reach 120", x, 1, 1000000);
+        C.due("aim", x.aim(0, 1000000), 120);
+        C.due("plays", x.plays(1), 3);
+        C.due("OVER: likeliest", x.likeliest(0), 120);
+        NextLoad full = new NextLoad();
+        for (int i = 0; i < 6; i++) {
+            C.due("enters", Checks.enter(full, "80," + i + ";40=1000/10+1+0;40=1000/10+1+0;40=1000/10+1+0"), i);
+        }
+        C.due("wins of the least LOT", full.wins(5), 0);
+        C.row("wins", full, 1000000, 0, 0, 0, 0, 0);
+        C.due("often", full.often(0, 50, 3), 50);
+        C.row("often", full, 0, 1800);
+        C.due("plays", full.plays(3), 54);
+        C.row("plays", full, 0, 1, 2, 3, 4, 5);
+        C.due("count(4)", full.count(4), 54);
+        C.due("count(5)", full.count(5), 54);
+        C.due("the last TRY", full.tried(53, 0), 5);
+        C.due("no more of them", full.tried(54, 0), -1);
     }
 
     /** An answer below 0 leaves the ROW, and so does a call that tells of none. */
