@@ -130,6 +130,18 @@ public final class EdgeDrawnTest {
         C.due("TRIES", x.plays(5), 24);
         C.row("like sums by BODY, those who are OUT behind", x, 2, 1, 3, 0);
         C.due("OUT", x.count(9), 9);
+        String[] texts = new String[6];
+        for (int i = 0; i < 6; i++) {
+            texts[i] = "80," + (9 - i) + three(1000);
+        }
+        NextLoad all = States.with(texts);
+        C.due("as many TRIES as there can be", all.plays(5), 54);
+        C.due("TRIES", all.count(4), 54);
+        C.due("GOOD ones", all.count(5), 54);
+        C.row("by LOT", all, 5, 4, 3, 2, 1, 0);
+        C.due("OVER", all.count(1), 3);
+        C.due("the last one", all.tried(53, 0), 0);
+        C.due("behind the last one", all.tried(54, 0), -1);
         NextLoad six = States.full();
         six.plays(5);
         C.due("six of them", six.count(7), 6);

@@ -11,6 +11,7 @@ public final class EdgeDuelTest {
         whoTheyAre();
         changesFrom0To2();
         aheadAtLast();
+        aheadBySums();
         whoIsOutAtLast();
         whoIsCalled();
         theTryFirst();
@@ -170,6 +171,28 @@ public final class EdgeDuelTest {
         C.due("10 stands, 10 is made", z.bluff(0, 1, 0, 0), 1000000);
     }
 
+    /** LIFT 2, ROUND 2 of two with those BESTS of LIFTS 0 and 1, the first one AHEAD with like sums, 10 each at last for sure. */
+    private static NextLoad unlike(int a0, int a1, int b0, int b1) {
+        NextLoad x = States.with("80,5;40=500/" + a0 + "+1+0;40=500/" + a1 + "+1+0;10=1000/10+1+0",
+            "80,6;40=500/" + b0 + "+1+0;40=500/" + b1 + "+1+0;10=1000/10+1+0");
+        while (x.count(1) < 2 || x.count(2) < 2) {
+            x.tries(x.count(1) < 2 && x.lifter(x.called(), x.count(1), 5) == 0);
+        }
+        return x;
+    }
+
+    /** AHEAD by the sum of all three LIFTS */
+    private static void aheadBySums() {
+        int[][] bests = {{5, 7, 6, 6}, {5, 7, 6, 7}, {5, 7, 7, 6}, {5, 7, 5, 6}, {5, 7, 4, 7}, {1, 40, 40, 1}, {40, 1, 2, 40}, {30, 2, 2, 29}};
+        for (int[] b : bests) {
+            NextLoad x = unlike(b[0], b[1], b[2], b[3]);
+            boolean leads = b[0] + b[1] >= b[2] + b[3];
+            String name = b[0] + " and " + b[1] + " against " + b[2] + " and " + b[3];
+            C.due(name, x.bluff(0, 1, 0, 0), leads ? 1000000 : 0);
+            C.due(name + ", the other way round", x.bluff(1, 0, 0, 0), leads ? 0 : 1000000);
+        }
+    }
+
     /** "both not OUT, or b alone OUT; 0 otherwise" */
     private static void whoIsOutAtLast() {
         String fails = ";10=0/10+1+0";
@@ -238,6 +261,19 @@ public final class EdgeDuelTest {
         // a at 13 or more, called last: GOOD: 500000
         behind.tells("no CHANGES", x -> x.bluff(0, 1, 0, 0), 250000, 0, 0);
         behind.tells("13 of all above", x -> x.bluff(0, 1, 1, 0), 500000, 0, 13);
+        behind.tells("no CHANGES, behind others", x -> {
+            x.bluff(0, 1, 2, 2);
+            x.bluff(0, 1, 2, 0);
+            return x.bluff(0, 1, 0, 0);
+        }, 250000, 0, 0);
+        Twins used = new Twins(C, "b has used both", () -> {
+            NextLoad x = lastRound(new String[] {"gf", "gf"}, "80,5;40=500/10+1+1", "70,6;40=500/10+1+1");
+            x.asks(1, 13);
+            x.asks(1, 12);
+            return x;
+        });
+        used.tells("VALUE if nobody had CHANGES", x -> x.duel(0, 1), 500000, 0, 13, 250000);
+        used.tells("the other way round", x -> x.duel(1, 0), 500000, 0, 13, 750000);
         behind.tells("13 for who wants it least", x -> x.bluff(1, 0, 0, 1), 500000, 0, 13);
     }
 

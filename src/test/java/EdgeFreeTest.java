@@ -11,6 +11,7 @@ public final class EdgeFreeTest {
         refusedOfNoLifter();
         leastOrMore();
         fortyAtMost();
+        sureFirst();
         ofEqualOnesTheLeast();
         cutAheadOfBeingCompared();
         barForThisRoundAlone();
@@ -26,6 +27,7 @@ public final class EdgeFreeTest {
         gold();
         lineOfGoodOnes();
         lineOfFailedOnes();
+        lineAsThen();
         lineByWin();
         lineRefused();
         C.end();
@@ -83,6 +85,14 @@ public final class EdgeFreeTest {
         all.tells("heavy(0)", x -> x.heavy(0), 120000, 1, 9000);
         all.tells("line(0, 0, true)", x -> x.line(0, 0, true), 9, 1, 2, 40, 1, 2, 40, 1, 2, 40);
         all.tells("line(0, 0, false)", x -> x.line(0, 0, false), 3, 1, 1, 40);
+        // 42 in three TRIES of 500: 21000, 31500, 36750
+        Twins half = new Twins(C, "500 up to 40", () -> States.with("80,5" + ONES + ";40=500/1+1+0"));
+        half.tells("reach(0, 42)", x -> x.reach(0, 42), 875000, 1, 0);
+        C.due("heavy(0)", half40().heavy(0), 36750);
+        C.due("its next LOAD", Checks.rowOf(half40Asked(), 0), 40);
+        half.tells("reach(0, 0)", x -> x.reach(0, 0), 1000000, 1, 1000000);
+        half.tells("aim(0, 875000)", x -> x.aim(0, 875000), 42, 875000);
+        half.tells("aim(0, 875001)", x -> x.aim(0, 875001), 0, 1000000);
         Twins last = new Twins(C, "LEAST 40", () -> {
             NextLoad x = States.with("80,5" + States.three("40=1000/39+1+0"));
             x.tries(true);
@@ -91,6 +101,41 @@ public final class EdgeFreeTest {
         last.tells("heavy(0)", x -> x.heavy(0), 120000, 40, 120000);
         last.tells("line of FAILED ones may stay at 40", x -> x.line(0, 0, false), 5, 40, 40, 1, 1, 40);
         last.tells("line of GOOD ones may not", x -> x.line(0, 0, true), 7, 40, 1, 2, 40, 1, 2, 40);
+    }
+
+    /** LIFT 2 begins. */
+    private static NextLoad half40() {
+        NextLoad x = States.with("80,5" + ONES + ";40=500/1+1+0");
+        States.tryAll(x, "gffgff");
+        return x;
+    }
+
+    private static NextLoad half40Asked() {
+        NextLoad x = half40();
+        x.heavy(0);
+        return x;
+    }
+
+    /** Three TRIES: the first one to be sure of something, then twice what is not sure. */
+    private static void sureFirst() {
+        Twins t = new Twins(C, "sure of 10", () -> {
+            NextLoad x = States.with("80,5" + ONES + ";10=1000,11=500,20=500/10+1+0");
+            States.tryAll(x, "gffgff");
+            return x;
+        });
+        // 10, then 20 twice: 22000, 22000 or 17000, 19500; by PLAN 10, 11, then 12 or 11: 13500, 12500
+        t.tells("heavy(0)", x -> x.heavy(0), 19500, 10, 13000);
+        t.tells("line(0, 0, true)", x -> x.line(0, 0, true), 3, 10, 20, 21);
+        // FAILED: 10 again and 20 behind it, 17000, is more than 20 twice, 16500; at last 10, 12000, is more than 20, 11000
+        t.tells("line(0, 0, false)", x -> x.line(0, 0, false), 3, 10, 10, 10);
+        Twins once = new Twins(C, "sure up to 11, 10 FAILED", () -> {
+            NextLoad x = States.with("80,5" + ONES + ";11=1000/10+1+0");
+            States.tryAll(x, "gffgff");
+            x.tries(false);
+            return x;
+        });
+        // 10 again, as 11 is sure behind it
+        once.tells("heavy(0)", x -> x.heavy(0), 13000, 10, 13000);
     }
 
     /** "(of equal ones the least LOAD)" */
@@ -165,9 +210,18 @@ public final class EdgeFreeTest {
         doomed.tells("reach(0, 0)", x -> x.reach(0, 0), 1000000, 0, 1000000);
         doomed.tells("reach(0, 1)", x -> x.reach(0, 1), 0, 0, 0);
         doomed.tells("aim(0, 1000000)", x -> x.aim(0, 1000000), 0, 1000000);
+        doomed.tells("aim(0, 1)", x -> x.aim(0, 1), 0, 1000000);
         doomed.tells("gold(0)", x -> x.gold(0), 0, 0, 0);
         doomed.tells("against(0, 1)", x -> x.against(0, 1), 0, 0, 0);
         doomed.tells("line(0, 0, true)", x -> x.line(0, 0, true), 0);
+        Twins one = new Twins(C, "1 made, none to come", () -> {
+            NextLoad x = States.with("80,5;1=1000/1+1+0;5=1000/5+1+0;5=1000/5+1+0", "70,6;40=500/39+1+0" + TWO);
+            States.tryAll(x, "gffff");
+            return x;
+        });
+        one.tells("aim(0, 1)", x -> x.aim(0, 1), 11, 1000000);
+        one.tells("heavy(0)", x -> x.heavy(0), 11000, 1, 11000);
+        one.tells("reach(0, 11)", x -> x.reach(0, 11), 1000000, 1, 1000000);
         // the last LIFT: its last TRY is made, others have theirs to come
         Twins last = new Twins(C, "last, begun", States::lastBegun);
         // 0 made 10 with its last TRY: 12, 12, 10
@@ -208,6 +262,23 @@ public final class EdgeFreeTest {
         });
         // 10: 400 of 12, 11: 350 of 13, 12: 300 of 14
         twice.tells("heavy(0)", x -> x.heavy(0), 4800, 10, 4800);
+        // three TRIES of 12 in LIFT 0: 500, 200 and none: 2400, 6000 + 1200
+        Twins first = new Twins(C, "tired from LIFT 0 on", () -> {
+            NextLoad x = States.with("80,5;10=500/10+1+0" + ONES);
+            x.tires(300);
+            return x;
+        });
+        first.tells("heavy(0)", x -> x.heavy(0), 7200, 10, 7200);
+        first.tells("reach(0, 12)", x -> x.reach(0, 12), 600000, 10, 600000);
+        // the same in LIFT 2
+        Twins third = new Twins(C, "tired in LIFT 2", () -> {
+            NextLoad x = States.with("80,5" + ONES + ";10=500/10+1+0");
+            x.tires(300);
+            return x;
+        });
+        third.tells("reach(0, 12)", x -> x.reach(0, 12), 600000, 1, 600000);
+        third.tells("heavy(0)", x -> x.heavy(0), 7200, 1, 7200);
+        third.tells("aim(0, 600000)", x -> x.aim(0, 600000), 12, 600000);
         // another LIFT: none FAILED in it
         Twins other = new Twins(C, "tired in LIFT 0", () -> {
             NextLoad x = States.with("80,5;1=1000/1+1+0;10=1000/10+1+0;10=1000/10+1+0");
@@ -261,10 +332,12 @@ public final class EdgeFreeTest {
         Twins none = new Twins(C, "nothing", () -> States.with("80,5" + States.three("40=0/40+1+0")));
         none.tells("aim(0, 1)", x -> x.aim(0, 1), 0, 1000000);
         // each total from 1 up can be the greatest one
-        for (int top = 1; top <= 40; top++) {
-            NextLoad x = States.with("80,5" + ONES + ";" + top + "=1000/1+1+0");
-            C.due("up to " + top, x.aim(0, 1000000), top + 2);
-            C.row("up to " + top, x, 1000000);
+        for (int total = 3; total <= 120; total++) {
+            int a = Math.min(40, total - 2);
+            int b = Math.min(40, total - a - 1);
+            NextLoad x = States.with(sure("80,5", a, b, total - a - b));
+            C.due("up to " + total, x.aim(0, 1000000), total);
+            C.row("up to " + total, x, 1000000);
         }
     }
 
@@ -316,6 +389,11 @@ public final class EdgeFreeTest {
         three.tells("gold(0)", x -> x.gold(0), 1000000, 1, 1000000);
         three.tells("gold(1)", x -> x.gold(1), 0, 1, 0);
         three.tells("gold(2)", x -> x.gold(2), 0, 1, 0);
+        NextLoad six = States.full();
+        for (int i = 0; i < 6; i++) {
+            C.due("six: at least what its PLAN is worth", six.gold(i) >= six.wins(i), true);
+            C.due("six: no more TRIES than there are", six.line(i, 1, true) <= 9, true);
+        }
     }
 
     /** "FREE LOADS of TRIES in a row, as all were GOOD": up to nine of them */
@@ -350,6 +428,28 @@ public final class EdgeFreeTest {
         });
         failed.tells("line(0, 0, false)", x -> x.line(0, 0, false), 2, 2, 3);
         failed.tells("line(0, 0, true)", x -> x.line(0, 0, true), 8, 2, 3, 1, 2, 3, 1, 2, 3);
+    }
+
+    /** LIFT 2, ROUND 1, FAILED at 5, TIRE 300. */
+    private static NextLoad tiredAtFive(int odds) {
+        NextLoad x = States.with("80,5" + ONES + ";5=900,6=" + odds + ",10=" + odds + "/5+1+0");
+        x.tires(300);
+        States.tryAll(x, "gffgfff");
+        return x;
+    }
+
+    /** "each as it would be chosen then": as tired, and with as great a LEAST as then */
+    private static void lineAsThen() {
+        // 5 (600), then 10 (400) if GOOD: 9000, else 5 (300): 2100, which is more than 10 (100): 1200; 10 at once: 5520
+        Twins low = new Twins(C, "700", () -> tiredAtFive(700));
+        low.tells("heavy(0)", x -> x.heavy(0), 6240, 5, 5280);
+        low.tells("line(0, 0, false)", x -> x.line(0, 0, false), 2, 5, 5);
+        low.tells("line(0, 0, true)", x -> x.line(0, 0, true), 2, 5, 10);
+        // 10 (470), then 10 again (170): 2040, though 5 (300) would be more: 6721.2; 5 at first: 6450
+        Twins high = new Twins(C, "770", () -> tiredAtFive(770));
+        high.tells("heavy(0)", x -> x.heavy(0), 6721, 10, 5322);
+        high.tells("line(0, 0, false)", x -> x.line(0, 0, false), 2, 10, 10);
+        high.tells("line(0, 0, true)", x -> x.line(0, 0, true), 2, 10, 11);
     }
 
     /** "by AIM 0: MASS, 1: WIN" */

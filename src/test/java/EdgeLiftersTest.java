@@ -42,6 +42,10 @@ public final class EdgeLiftersTest {
         C.due("TIRE stays", tired.count(6), 50);
         C.due("BAR", tired.count(3), 0);
         NextLoad over = States.over();
+        NextLoad out = States.oneOut();
+        out.leaves();
+        C.due("nobody OUT any more", out.count(9), 0);
+        C.due("BESTS are gone", out.lifter(1, 0, 5), 0);
         C.due("leaves() behind the end", over.leaves(), 2);
         C.due("LIFT", over.count(1), 0);
         C.due("OUT", over.count(9), 0);
@@ -109,6 +113,10 @@ public final class EdgeLiftersTest {
         y.plans(0, 0, 0, 40);
         C.due("no longer OVER", y.count(1), 0);
         C.due("ASKED", y.lifter(0, 0, 6), 40);
+        NextLoad out = States.oneOut();
+        out.plans(2, 2, 2, 0);
+        C.due("nobody OUT any more", out.count(9), 0);
+        C.due("ASKED", out.lifter(0, 0, 6), 10);
     }
 
     /** "TIRE becomes e (THE MEET goes on): what it was. NONE: another e."; TIRE 0 .. 300 */
@@ -139,6 +147,13 @@ public final class EdgeLiftersTest {
         C.due("none any more", x.tried(0, 0), -1);
         NextLoad y = States.over();
         C.due("begins() when it is OVER", y.begins(), 3);
+        for (int i = 0; i < 9; i++) {
+            C.due("BESTS are gone", y.lifter(i / 3, i % 3, 5), 0);
+        }
+        NextLoad out = States.oneOut();
+        out.begins();
+        C.due("nobody OUT any more", out.count(9), 0);
+        C.due("all are to TRY", out.order(), 3);
         C.due("LIFT", y.count(1), 0);
         C.due("OUT", y.count(9), 0);
         C.due("CHANGES", y.lifter(0, 0, 8), 1);

@@ -572,6 +572,9 @@ public final class EdgeMeetTest {
         C.due("ROUND 1", x.count(2), 1);
         C.due("LEAST 11, no CHANGES", x.slot(0, 0), 11);
         C.due("behind both at 16", x.slot(0, 2), 17);
+        NextLoad high = States.with("80,5" + THREE, "80,4;20=500/40+1+0" + TWO, "80,3;20=500/39+1+0" + TWO);
+        C.due("40 is the last LOAD: behind LOT 4 at 40", high.slot(0, 2), 40);
+        C.due("39: behind LOT 3", high.slot(0, 1), 39);
         NextLoad alone = States.with("80,5" + THREE);
         C.due("alone", alone.slot(0, 0), 1);
         C.due("alone", alone.slot(0, 1), -3);

@@ -9,6 +9,7 @@ public final class EdgePlansTest {
         refusedOfNoLifter();
         massIsCutEachTime();
         massByWhatIsAsked();
+        massByMoreAndAgain();
         massAtTheEnds();
         chanceFrom0To121();
         chanceAtItsStep();
@@ -92,6 +93,19 @@ public final class EdgePlansTest {
         C.due("5 again, tired: 700, then 400", x.mass(0), (7000 * 700 + 300 * (7000 * 400 / 1000)) / 1000);
     }
 
+    /** "behind a TRY at x: x and MORE, if it was GOOD, else x and AGAIN; above 40 .. there is no TRY to come" */
+    private static void massByMoreAndAgain() {
+        // 10 (500); GOOD: 12 (300), FAILED: 13 (200); then 14, 15, 15, 16, where there is nothing
+        NextLoad x = States.with("80,5" + ONES + ";10=500,11=300,12=300,13=200/10+2+3");
+        // 12: 12000 + 300 of 2000; 13: 200 of 15000
+        C.due("MORE 2, AGAIN 3", x.mass(0), (500 * 12600 + 500 * 3000) / 1000);
+        // 31 (500); GOOD: 40, FAILED: 40; behind these there is none
+        NextLoad y = States.with("80,5" + ONES + ";40=500/31+9+9");
+        C.due("31, then 40 either way", y.mass(0), (500 * 37500 + 500 * 21000) / 1000);
+        NextLoad z = States.with("80,5" + ONES + ";40=500/32+9+9");
+        C.due("32 alone", z.mass(0), 17000);
+    }
+
     private static void massAtTheEnds() {
         new Twins(C, "one OUT", States::oneOut).same("of who is OUT", x -> x.mass(0), 0);
         NextLoad x = States.over();
@@ -151,6 +165,12 @@ public final class EdgePlansTest {
             return x;
         });
         two.tells("likeliest(0)", x -> x.likeliest(0), 12, 500000, 1000000);
+        new Twins(C, "13 rather than 12", () -> {
+            NextLoad x = States.with("80,5" + ONES + ";11=501/10+1+0");
+            States.tryAll(x, "gffgffg");
+            x.tries(false);
+            return x;
+        }).tells("likeliest(0)", x -> x.likeliest(0), 13, 501000, 1000000);
     }
 
     /** "(w 0 .. 120)" */
@@ -253,6 +273,9 @@ public final class EdgePlansTest {
         new Twins(C, "alone", () -> lastTry(250)).tells("wins(0)", x -> x.wins(0), 250000, 250000);
         new Twins(C, "OVER", States::over).tells("wins(2)", x -> x.wins(2), 1000000, 0, 0, 1000000);
         new Twins(C, "OVER", States::over).tells("wins(0)", x -> x.wins(0), 0, 0, 0, 1000000);
+        Twins like = new Twins(C, "two alike", () -> States.with(sure("80,5", 9, 9, 9), sure("80,6", 9, 9, 9)));
+        like.tells("wins(0)", x -> x.wins(0), 1000000, 1000000, 0);
+        like.tells("wins(1)", x -> x.wins(1), 0, 1000000, 0);
         NextLoad out = States.oneOut();
         C.due("who is OUT", out.wins(0), 0);
         C.due("ROW of all", out.count(7), 3);

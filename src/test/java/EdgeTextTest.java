@@ -220,6 +220,9 @@ public final class EdgeTextTest {
         C.due("gone with its LIFTER", Checks.enter(x, "13,1" + THREE), 3);
         C.due("a refused one leaves no LOT", Checks.enter(x, "12,7;"), -26);
         C.due("a refused one leaves no LOT", Checks.enter(x, "12,7" + THREE), 4);
+        C.due("a LOT that was not read is like none", Checks.enter(x, "x"), -21);
+        C.due("a LOT that was not read is like none", Checks.enter(x, "12;"), -23);
+        C.due("a LOT that was not read is like none", x.enters(), -21);
     }
 
     /** "a LOAD not above the one ahead in its TABLE" */
@@ -278,6 +281,11 @@ public final class EdgeTextTest {
         String text = "80,5;1=900,2=40/12+3+1;5=1000/8+2+0;2=800,3=300,4=0/22+4+2";
         for (int n = 0; n < text.length(); n++) {
             bad(text.substring(0, n), n);
+            // what was cut off is not read any more
+            NextLoad x = new NextLoad();
+            Checks.write(x, text);
+            x.end(n);
+            C.due("cut to " + n, x.enters(), -21 - n);
         }
         taken(text);
     }
@@ -379,6 +387,12 @@ public final class EdgeTextTest {
         C.due("LEAST", x.lifter(2, 0, 7), 1);
         C.due("BEST", x.lifter(2, 0, 5), 0);
         C.due("all are to TRY", x.order(), 4);
+        NextLoad out = States.oneOut();
+        out.end(0);
+        Checks.enter(out, "80,66" + THREE);
+        C.due("nobody OUT any more", out.count(9), 0);
+        C.due("BESTS are gone", out.lifter(1, 0, 5), 0);
+        C.due("it tries again", out.order(), 4);
         NextLoad y = States.over();
         y.end(0);
         Checks.enter(y, "80,66" + THREE);
