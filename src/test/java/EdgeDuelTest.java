@@ -266,6 +266,16 @@ public final class EdgeDuelTest {
             x.bluff(0, 1, 2, 0);
             return x.bluff(0, 1, 0, 0);
         }, 250000, 0, 0);
+        // if b has a CHANGE, it goes as far as a, who is then called ahead of it: 250000; 40 is far enough for all
+        for (int x = 0; x < 3; x++) {
+            for (int y = 0; y < 3; y++) {
+                int a = x;
+                int b = y;
+                boolean goes = x > 0 && y == 0;
+                behind.tells("bluff(0, 1, " + x + ", " + y + ")", m -> m.bluff(0, 1, a, b), goes ? 500000 : 250000, 0, goes ? 13 : 0);
+                behind.tells("bluff(1, 0, " + y + ", " + x + ")", m -> m.bluff(1, 0, b, a), goes ? 500000 : 750000, 0, goes ? 13 : 0);
+            }
+        }
         Twins used = new Twins(C, "b has used both", () -> {
             NextLoad x = lastRound(new String[] {"gf", "gf"}, "80,5;40=500/10+1+1", "70,6;40=500/10+1+1");
             x.asks(1, 13);

@@ -309,6 +309,10 @@ public final class EdgeFreeTest {
         middle.tells("reach(0, 0)", x -> x.reach(0, 0), 1000000, 10, 1000000);
         middle.tells("reach(0, 121)", x -> x.reach(0, 121), 0, 10, 0);
         Twins all = new Twins(C, "sure of all", () -> States.with("80,5" + States.three("40=1000/40+1+0")));
+        // OUT or not, 0 is there
+        new Twins(C, "500 up to 40", EdgeFreeTest::half40).tells("reach(0, 0)", x -> x.reach(0, 0), 1000000, 1, 1000000);
+        new Twins(C, "500 up to 40 thrice", () -> States.with("80,5" + States.three("40=500/9+1+0")))
+            .tells("reach(0, 0)", x -> x.reach(0, 0), 1000000, 1, 1000000);
         all.tells("reach(0, 120)", x -> x.reach(0, 120), 1000000, 1, 1000000);
         all.tells("reach(0, 121)", x -> x.reach(0, 121), 0, 1, 0);
     }

@@ -14,6 +14,7 @@ public final class EdgeTermsTest {
         inAnyOrder("one OUT", States::oneOut, asksOf(0, 1, 2));
         inAnyOrder("last", States::last, asksOf(0, 1, 2));
         inAnyOrder("last, of two like ones", EdgeTermsTest::twoAlike, asksOf(0, 1, 0));
+        inAnyOrder("alone", () -> States.with("80,5" + States.three("20=500/10+1+0")), asksOf(0, 1, 0));
         inAnyOrder("OVER", States::over, asksOf(2, 0, 1));
         inAnyOrder("empty", States::empty, asksOf(0, 1, 2));
         C.end();
