@@ -644,8 +644,12 @@ public final class NextLoad {
 
         /** The ODDS behind one POINT up to the next one. */
         void spread(int lift, int load, int odds, int nextLoad, int nextOdds) {
+            int width = nextLoad - load;
+            if (width <= 0) {
+                return;
+            }
             for (int x = load + 1; x <= nextLoad && x <= HEAVIEST; x++) {
-                fresh[lift * (HEAVIEST + 1) + x] = odds - (odds - nextOdds) * (x - load) / (nextLoad - load);
+                fresh[lift * (HEAVIEST + 1) + x] = odds - (odds - nextOdds) * (x - load) / width;
             }
         }
     }

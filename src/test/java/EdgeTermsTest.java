@@ -2,9 +2,10 @@ import java.util.ArrayList;
 import java.util.List;
 import java.util.function.Supplier;
 
-/** Terms 3: calls that ask change nothing but the ROW, so that each answers the same whatever was asked ahead of it. */
+/** Terms 3: calls that ask answer the same whatever was asked ahead of them; no number makes a call throw. */
 public final class EdgeTermsTest {
     private static final Checks C = new Checks("EdgeTermsTest");
+    private static final int[] EDGES = {Integer.MIN_VALUE, -1, 0, 1, 2, 3, 6, 41, 122, Integer.MAX_VALUE};
 
     /** A call that asks, with its name. */
     private record Ask(String name, Twins.Call call) { }
@@ -17,7 +18,73 @@ public final class EdgeTermsTest {
         inAnyOrder("alone", () -> States.with("80,5" + States.three("20=500/10+1+0")), asksOf(0, 1, 0));
         inAnyOrder("OVER", States::over, asksOf(2, 0, 1));
         inAnyOrder("empty", States::empty, asksOf(0, 1, 2));
+        anyNumbers("empty", States::empty);
+        anyNumbers("fresh", States::fresh);
+        anyNumbers("middle", States::middle);
+        anyNumbers("one OUT", States::oneOut);
+        anyNumbers("last", States::last);
+        anyNumbers("last, begun", States::lastBegun);
+        anyNumbers("OVER", States::over);
+        anyNumbers("full", States::full);
         C.end();
+    }
+
+    /** No call but row() throws, whatever it is told; answers below 0 are those that the document tells for it. */
+    private static void anyNumbers(String state, Supplier<NextLoad> maker) {
+        for (int a : EDGES) {
+            NextLoad x = maker.get();
+            NextLoad planned = maker.get();
+            least(state + ": sign", x.sign(a), -1);
+            x.end(a);
+            least(state + ": tires", x.tires(a), -1);
+            least(state + ": place", x.place(a), -1);
+            least(state + ": mass", x.mass(a), -1);
+            least(state + ": likeliest", x.likeliest(a), -1);
+            least(state + ": wins", x.wins(a), -1);
+            least(state + ": bombs", x.bombs(a), -1);
+            least(state + ": heavy", x.heavy(a), -1);
+            least(state + ": gold", x.gold(a), -1);
+            least(state + ": count", x.count(a), -1);
+            Checks.rowOf(x, a);
+            for (int b : EDGES) {
+                anyTwo(state, maker.get(), a, b);
+                for (int c : EDGES) {
+                    anyThree(state, x, a, b, c);
+                    least(state + ": plans", planned.plans(a, b, c, c), -1);
+                }
+            }
+            least(state + ": plays", x.plays(a), -2);
+            least(state + ": tries", x.tries(true), -2);
+        }
+    }
+
+    private static void least(String call, long got, int least) {
+        C.due(call + " answered " + got, got >= least, true);
+    }
+
+    private static void anyTwo(String state, NextLoad x, int a, int b) {
+        least(state + ": asks", x.asks(a, b), -4);
+        least(state + ": tried", x.tried(a, b), -1);
+        least(state + ": slot", x.slot(a, b), -3);
+        least(state + ": needs", x.needs(a, b), -3);
+        least(state + ": chance", x.chance(a, b), -1);
+        least(state + ": beats", x.beats(a, b), -1);
+        least(state + ": reach", x.reach(a, b), -1);
+        least(state + ": aim", x.aim(a, b), -1);
+        least(state + ": against", x.against(a, b), -1);
+        least(state + ": line", x.line(a, b, true), -1);
+        least(state + ": line", x.line(a, b, false), -1);
+        least(state + ": duel", x.duel(a, b), -3);
+    }
+
+    private static void anyThree(String state, NextLoad x, int a, int b, int c) {
+        least(state + ": lifter", x.lifter(a, b, c), -1);
+        least(state + ": opener", x.opener(a, b, c), -2);
+        least(state + ": often", x.often(a, b, c), -1);
+        for (int d : EDGES) {
+            least(state + ": odds", x.odds(a, b, c, d), -1);
+            least(state + ": bluff", x.bluff(a, b, c, d), -3);
+        }
     }
 
     /** 10 stand both, the second one leads with like sums; both ASKED 11, the first one is called. */
