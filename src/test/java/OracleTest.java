@@ -38,6 +38,9 @@ public final class OracleTest {
         for (int i = 0; i < men; i++) {
             enter(name, heaviest);
         }
+        if (random.nextBoolean()) {
+            tires(name);
+        }
         int good = below(11);
         if (random.nextBoolean()) {
             goToLastRound(name, Math.max(5, good));
@@ -186,9 +189,7 @@ public final class OracleTest {
                 plans(name);
                 break;
             case 3:
-                int e = near(0, 300);
-                CHECKS.due(name + "tires(" + e + ")", x.tires(e), in(e, 0, 300) ? m.tire : -1);
-                m.tire = in(e, 0, 300) ? e : m.tire;
+                tires(name);
                 break;
             case 4:
                 CHECKS.due(name + "begins()", x.begins(), m.men.size());
@@ -198,6 +199,12 @@ public final class OracleTest {
                 plays(name);
                 break;
         }
+    }
+
+    private void tires(String name) {
+        int e = near(0, random.nextBoolean() ? 300 : 60);
+        CHECKS.due(name + "tires(" + e + ")", x.tires(e), in(e, 0, 300) ? m.tire : -1);
+        m.tire = in(e, 0, 300) ? e : m.tire;
     }
 
     private void plans(String name) {
